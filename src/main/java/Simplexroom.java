@@ -390,13 +390,18 @@ public final class Simplexroom {
   public String would(int bound, int right) throws IndexOutOfBoundsException, IllegalArgumentException {
     needBound(bound);
     needRight(right);
+    findRays();
+    boolean isEndless = region.hasRising(told);
+    region.load(told, told.set, false);
+    region.limitBound(bound, right);
+    region.find();
+    int most = region.firstBest(told);
     StringBuilder text = new StringBuilder();
-    if (!hasCornerWith(bound, right)) {
+    if (most == NONE) {
       text.append('!');
-    } else if (hasRisingRay()) {
+    } else if (isEndless) {
       text.append('+');
-    } else if (hasCornerWith(bound, right)) {
-      int most = region.firstBest(told);
+    } else {
       putFraction(text, region.worth(told, most), region.bottomOf(most));
     }
     return text.toString();
@@ -411,6 +416,7 @@ public final class Simplexroom {
       case NOTHING:
         return isNothingSound();
       default:
+        findCorners();
         return table.firstBelow() != NONE || pointCorner() != NONE;
     }
   }
@@ -435,7 +441,8 @@ public final class Simplexroom {
       d = d * 31 + lengthOf(text, table.amount(variable));
     }
     d = digestWitness(d, text);
-    return digestRoom(d, text);
+    d = digestRoom(d, text);
+    return d * 31 + (isSound() ? 1 : 0);
   }
 
   // ---- tests of arguments
@@ -526,7 +533,11 @@ public final class Simplexroom {
   }
 
   private int stepUp(int rule) {
-    enters = table.chooseGain(rule);
+    if (rule == 2) {
+      enters = table.greatestGrowth();
+    } else {
+      enters = rule == 1 ? table.greatestGain() : table.firstGain();
+    }
     if (enters == NONE) {
       answer = BEST;
       return 3;
@@ -625,23 +636,6 @@ public final class Simplexroom {
     return region.count > 0;
   }
 
-  private boolean hasCornerWith(int bound, int right) {
-    region.load(told, told.set, false);
-    region.limitBound(bound, right);
-    region.find();
-    return region.count > 0;
-  }
-
-  private boolean hasRisingRay() {
-    findRays();
-    for (int i = 0; i < region.count; i++) {
-      if (region.worth(told, i) > 0) {
-        return true;
-      }
-    }
-    return false;
-  }
-
   private boolean isNeedless(int bound) {
     int others = told.set & ~(1 << bound);
     region.load(told, others, false);
@@ -659,9 +653,8 @@ public final class Simplexroom {
 
   // ---- whether all is sound
 
-  /** The CORNER that the POINT is, or NONE; leaves the corners in the region. */
+  /** The one of the corners in the region that the POINT is, or NONE. */
   private int pointCorner() {
-    findCorners();
     for (int i = 0; i < region.count; i++) {
       boolean isSame = true;
       for (int k = 0; k < told.width; k++) {
@@ -675,10 +668,19 @@ public final class Simplexroom {
   }
 
   private boolean isBestSound() {
+    findCorners();
     int here = pointCorner();
-    if (here == NONE || region.compareWorth(told, here, region.firstBest(told)) != 0 || hasRisingRay()) {
+    if (here == NONE || region.compareWorth(told, here, region.firstBest(told)) != 0) {
       return false;
     }
+    findRays();
+    if (region.hasRising(told)) {
+      return false;
+    }
+    return arePricesSound();
+  }
+
+  private boolean arePricesSound() {
     long sum = 0;
     for (int row = 0; row < told.rows; row++) {
       if (priceTop(row) < 0) {
@@ -708,7 +710,8 @@ public final class Simplexroom {
         return false;
       }
     }
-    return hasRisingRay();
+    findRays();
+    return region.hasRising(told);
   }
 
   private boolean isNothingSound() {
@@ -770,8 +773,7 @@ public final class Simplexroom {
     text.setLength(0);
     findCorners();
     mean.put(text, region, told);
-    d = d * 31 + text.length();
-    return d * 31 + (isSound() ? 1 : 0);
+    return d * 31 + text.length();
   }
 
   private int lengthOf(StringBuilder text, long top) {
@@ -825,8 +827,8 @@ public final class Simplexroom {
 
   /** The greatest common divisor, not below 0; 0 if both are 0. */
   private static long commonDivisor(long one, long other) {
-    long a = Math.abs(one);
-    long b = Math.abs(other);
+    long a = one < 0 ? -one : one;
+    long b = other < 0 ? -other : other;
     for (int i = 0; i < 200 && b != 0; i++) {
       long rest = a % b;
       a = b;
@@ -1025,20 +1027,12 @@ public final class Simplexroom {
       return size;
     }
 
-    private int lineOf(int variable) {
-      return variable < 0 || variable >= MOST_VARIABLES ? NONE : lines[variable];
-    }
-
-    private int columnOf(int variable) {
-      return variable < 0 || variable >= MOST_VARIABLES ? NONE : columns[variable];
-    }
-
     boolean isOuter(int variable) {
-      return columnOf(variable) >= 0;
+      return variable >= 0 && variable < MOST_VARIABLES && columns[variable] >= 0;
     }
 
     private boolean isBasic(int variable) {
-      return lineOf(variable) >= 0;
+      return variable >= 0 && variable < MOST_VARIABLES && lines[variable] >= 0;
     }
 
     int basics() {
@@ -1057,21 +1051,17 @@ public final class Simplexroom {
 
     /** What a VARIABLE is if all OUTER ones are 0. */
     long amount(int variable) {
-      int line = lineOf(variable);
-      return line < 0 ? 0 : cells[line][NUMBER];
+      return isBasic(variable) ? cells[lines[variable]][NUMBER] : 0;
     }
 
     /** The FACTOR of an OUTER one in a BASIC; 0 for all others. */
     long entry(int basic, int outer) {
-      int line = lineOf(basic);
-      int column = columnOf(outer);
-      return line < 0 || column < 0 ? 0 : cells[line][column];
+      return isBasic(basic) && isOuter(outer) ? cells[lines[basic]][columns[outer]] : 0;
     }
 
     /** The GAIN of an OUTER one; 0 for a BASIC. */
     long gain(int outer) {
-      int column = columnOf(outer);
-      return column < 0 ? 0 : -cells[WISH][column];
+      return isOuter(outer) ? -cells[WISH][columns[outer]] : 0;
     }
 
     /** By how much a BASIC grows as the RIGHT of the SLACK's ROW grows by 1. */
@@ -1101,18 +1091,7 @@ public final class Simplexroom {
       return NONE;
     }
 
-    int chooseGain(int rule) {
-      switch (rule) {
-        case 1:
-          return greatestGain();
-        case 2:
-          return greatestGrowth();
-        default:
-          return firstGain();
-      }
-    }
-
-    private int firstGain() {
+    int firstGain() {
       for (int v = 0; v < size; v++) {
         if (gain(v) > 0) {
           return v;
@@ -1121,7 +1100,7 @@ public final class Simplexroom {
       return NONE;
     }
 
-    private int greatestGain() {
+    int greatestGain() {
       int most = NONE;
       for (int v = 0; v < size; v++) {
         if (gain(v) > 0 && (most == NONE || gain(v) > gain(most))) {
@@ -1131,7 +1110,7 @@ public final class Simplexroom {
       return most;
     }
 
-    private int greatestGrowth() {
+    int greatestGrowth() {
       int most = NONE;
       long mostTop = 0;
       long mostUnder = 1;
@@ -1206,11 +1185,11 @@ public final class Simplexroom {
     }
 
     void exchange(int leaving, int entering) {
-      int line = lineOf(leaving);
-      int column = columnOf(entering);
-      if (line < 0 || column < 0) {
+      if (!isBasic(leaving) || !isOuter(entering)) {
         return;
       }
+      int line = lines[leaving];
+      int column = columns[entering];
       long pivot = cells[line][column];
       if (pivot == 0 || bottom == 0) {
         return;
@@ -1344,7 +1323,7 @@ public final class Simplexroom {
     }
 
     private void fill(int slot, int kind, long right) {
-      if (slot >= 0 && slot < SLOTS) {
+      if (isSlot(slot)) {
         isThere[slot] = true;
         kinds[slot] = kind;
         rights[slot] = right;
@@ -1386,27 +1365,30 @@ public final class Simplexroom {
       }
     }
 
-    private long factorAt(int slot, int unknown) {
-      int turned = unknown % MOST_UNKNOWNS;
-      int at = slot * MOST_UNKNOWNS + turned;
-      return at < 0 || at >= factors.length ? 0 : factors[at];
-    }
-
-    private long rightAt(int slot) {
-      return slot < 0 || slot >= SLOTS ? 0 : rights[slot];
+    private static boolean isSlot(int slot) {
+      return slot >= 0 && slot < SLOTS;
     }
 
     /** One number of the vector that is upright on two planes. */
     private long upright(int one, int other, int unknown) {
-      return factorAt(one, unknown + 1) * factorAt(other, unknown + 2)
-          - factorAt(one, unknown + 2) * factorAt(other, unknown + 1);
+      if (!isSlot(one) || !isSlot(other) || unknown < 0 || unknown >= MOST_UNKNOWNS) {
+        return 0;
+      }
+      int next = (unknown + 1) % MOST_UNKNOWNS;
+      int last = (unknown + 2) % MOST_UNKNOWNS;
+      int a = one * MOST_UNKNOWNS;
+      int b = other * MOST_UNKNOWNS;
+      return factors[a + next] * factors[b + last] - factors[a + last] * factors[b + next];
     }
 
     /** Puts the only point on three planes, in lowest terms; false if there is none. */
     private boolean solve(int i, int j, int k) {
+      if (!isSlot(i) || !isSlot(j) || !isSlot(k)) {
+        return false;
+      }
       long volume = 0;
       for (int u = 0; u < MOST_UNKNOWNS; u++) {
-        volume += factorAt(i, u) * upright(j, k, u);
+        volume += factors[i * MOST_UNKNOWNS + u] * upright(j, k, u);
       }
       if (volume == 0) {
         return false;
@@ -1415,8 +1397,8 @@ public final class Simplexroom {
       long common = Math.abs(volume);
       point[BOTTOM] = common;
       for (int u = 0; u < MOST_UNKNOWNS; u++) {
-        point[u] = sign * (rightAt(i) * upright(j, k, u) + rightAt(j) * upright(k, i, u)
-            + rightAt(k) * upright(i, j, u));
+        point[u] = sign * (rights[i] * upright(j, k, u) + rights[j] * upright(k, i, u)
+            + rights[k] * upright(i, j, u));
         common = commonDivisor(common, point[u]);
       }
       for (int u = 0; u < WIDE && common > 1; u++) {
@@ -1430,7 +1412,7 @@ public final class Simplexroom {
         if (isThere[slot]) {
           long left = 0;
           for (int u = 0; u < MOST_UNKNOWNS; u++) {
-            left += factorAt(slot, u) * point[u];
+            left += factors[slot * MOST_UNKNOWNS + u] * point[u];
           }
           if (!holds(left, kinds[slot], rights[slot] * point[BOTTOM])) {
             return false;
@@ -1468,8 +1450,12 @@ public final class Simplexroom {
     }
 
     private int compareToPoint(int nth) {
+      if (nth < 0 || nth >= MOST_CORNERS) {
+        return 0;
+      }
+      int at = nth * WIDE;
       for (int u = 0; u < MOST_UNKNOWNS; u++) {
-        int order = Long.compare(coordinate(nth, u) * point[BOTTOM], point[u] * bottomOf(nth));
+        int order = Long.compare(found[at + u] * point[BOTTOM], point[u] * found[at + BOTTOM]);
         if (order != 0) {
           return order;
         }
@@ -1479,12 +1465,13 @@ public final class Simplexroom {
 
     /** The top of a number of a CORNER, over its bottom. */
     long coordinate(int nth, int unknown) {
-      boolean isHere = nth >= 0 && nth < count && nth < MOST_CORNERS;
-      return isHere && unknown >= 0 && unknown < WIDE ? found[nth * WIDE + unknown] : 0;
+      boolean isFound = nth >= 0 && nth < count && nth < MOST_CORNERS;
+      return isFound && unknown >= 0 && unknown < MOST_UNKNOWNS ? found[nth * WIDE + unknown] : 0;
     }
 
     long bottomOf(int nth) {
-      return coordinate(nth, BOTTOM);
+      boolean isFound = nth >= 0 && nth < count && nth < MOST_CORNERS;
+      return isFound ? found[nth * WIDE + BOTTOM] : 1;
     }
 
     /** The top of the VALUE of a CORNER, over its bottom. */
@@ -1494,6 +1481,15 @@ public final class Simplexroom {
         sum += told.wanted(u) * coordinate(nth, u);
       }
       return sum;
+    }
+
+    boolean hasRising(Told told) {
+      for (int i = 0; i < count; i++) {
+        if (worth(told, i) > 0) {
+          return true;
+        }
+      }
+      return false;
     }
 
     int compareWorth(Told told, int one, int other) {
