@@ -204,7 +204,7 @@ public final class AgainstReference {
     seen("middle of " + middle.length() / 20 * 20 + " signs and more");
     int what = between(-1, 3);
     String whole = same("whole(" + what + ")", () -> x.whole(what), () -> y.whole(what));
-    seen("whole(" + what + ") " + (what == 2 || whole.length() == 1 && whole.charAt(0) < '0' ? whole : "other"));
+    seen("whole(" + what + ") " + (what == 2 || whole.length() == 1 && "!?".contains(whole) ? whole : "other"));
     seen("needless " + Integer.bitCount(y.needless()));
     same("needless()", () -> x.needless(), () -> y.needless());
     seen("fewest " + Integer.bitCount(y.fewest()));
