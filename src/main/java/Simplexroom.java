@@ -656,15 +656,20 @@ public final class Simplexroom {
   /** The one of the corners in the region that the POINT is, or NONE. */
   private int pointCorner() {
     for (int i = 0; i < region.count; i++) {
-      boolean isSame = true;
-      for (int k = 0; k < told.width; k++) {
-        isSame &= region.coordinate(i, k) * table.bottom == table.amount(k) * region.bottomOf(i);
-      }
-      if (isSame) {
+      if (isPoint(i)) {
         return i;
       }
     }
     return NONE;
+  }
+
+  private boolean isPoint(int corner) {
+    for (int k = 0; k < told.width; k++) {
+      if (region.coordinate(corner, k) * table.bottom != table.amount(k) * region.bottomOf(corner)) {
+        return false;
+      }
+    }
+    return true;
   }
 
   private boolean isBestSound() {
@@ -1238,8 +1243,8 @@ public final class Simplexroom {
     // that many sets of 3 OUTER ones of 15 VARIABLES there are at most
     private static final int MOST_SETS = 455;
     private int count = 0;
-    private int[] sets = new int[32];
-    private int[] times = new int[32];
+    private int[] sets = new int[8];
+    private int[] times = new int[8];
 
     void forget() {
       count = 0;
@@ -1265,9 +1270,9 @@ public final class Simplexroom {
         if (count >= MOST_SETS) {
           return;
         }
-        if (count >= sets.length) {
-          sets = Arrays.copyOf(sets, 2 * count);
-          times = Arrays.copyOf(times, 2 * count);
+        if (count >= sets.length || count >= times.length) {
+          sets = Arrays.copyOf(sets, 2 * count + 1);
+          times = Arrays.copyOf(times, 2 * count + 1);
         }
         place = count;
         count++;
@@ -1327,9 +1332,6 @@ public final class Simplexroom {
         isThere[slot] = true;
         kinds[slot] = kind;
         rights[slot] = right;
-        for (int k = 0; k < MOST_UNKNOWNS; k++) {
-          factors[slot * MOST_UNKNOWNS + k] = 0;
-        }
       }
     }
 

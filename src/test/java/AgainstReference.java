@@ -88,6 +88,46 @@ public final class AgainstReference {
     return k < 5 ? 0 : k < 7 ? 1 : 2;
   }
 
+  /** Bounds with 0 for each right (three factors and a kind each), and a wish, whose steps go round. */
+  private static final int[][] ROUND = {
+    {2, -5, 6, 0, 2, -3, 2, 2, -4, 4, 1, 0, 1, 1, -8, 2, 0, 0, 1, 0, 3, -2, 1},
+    {2, -5, 6, 0, 2, -3, 2, 0, -6, 3, 8, 0, 1, 1, -6, 2, 0, 0, 1, 0, 4, -2, 1},
+    {2, -5, 6, 0, 2, -3, 3, 0, -4, 2, 1, 0, 2, 2, -8, 2, 0, 0, 1, 0, 9, 0, 1},
+    {1, -5, 6, 0, 2, -3, 2, 0, -4, 4, 1, 0, -9, -1, -2, 0, 1, 1, -6, 2, 0, 0, 1, 0, 7, -6, 3},
+    {2, -6, 6, 0, 2, -3, 2, 0, -4, 4, -1, 0, 1, 3, -7, 2, 0, 0, 1, 2, 9, -2, 0},
+    {2, -5, 6, 0, 2, -3, 2, 2, -4, 4, 1, 0, 1, 1, -6, 2, 0, 0, 1, 0, 7, 0, 1},
+  };
+
+  private static void tellRound(Simplexroom x, Reference y) {
+    int[] r = ROUND[upTo(ROUND.length)].clone();
+    int other = upTo(3 * r.length);
+    if (other < r.length && r[other] != 2) {
+      r[other] = Math.max(-9, Math.min(9, r[other] + between(-1, 1)));
+    }
+    for (int i = 0; i + 3 < r.length; i += 4) {
+      tellBound(x, y, r[i], r[i + 1], r[i + 2], Math.max(0, Math.min(2, r[i + 3])), 0);
+    }
+    int w = r.length - 3;
+    same("wish(" + r[w] + ", " + r[w + 1] + ", " + r[w + 2] + ")", () -> x.wish(r[w], r[w + 1], r[w + 2]),
+        () -> y.wish(r[w], r[w + 1], r[w + 2]));
+  }
+
+  /** Rules in a run: mostly one and the same, sometimes any. */
+  private static void goRound(Simplexroom x, Reference y) {
+    int often = upTo(3);
+    for (int i = 0; i < 24; i++) {
+      int rule = upTo(8) == 0 ? upTo(3) : often;
+      int most = between(1, 9);
+      if (upTo(4) == 0) {
+        same("run(" + rule + ", " + most + ")", () -> x.run(rule, most), () -> y.run(rule, most));
+      } else {
+        same("step(" + rule + ")", () -> x.step(rule), () -> y.step(rule));
+      }
+      String ring = same("house(7)", () -> x.house(7), () -> y.house(7));
+      seen("ring " + ring);
+    }
+  }
+
   private static void tellBound(Simplexroom x, Reference y) {
     int a = drawFactor();
     int b = drawFactor();
@@ -191,6 +231,9 @@ public final class AgainstReference {
   }
 
   private static void askRoom(Simplexroom x, Reference y) {
+    same("middle()", () -> x.middle(), () -> y.middle());
+    int some = upTo(6);
+    same("corner(" + some + ")", () -> x.corner(some), () -> y.corner(some));
     int many = y.corners();
     seen("corners " + same("corners()", () -> x.corners(), () -> y.corners()));
     int nth = between(-1, many);
@@ -226,11 +269,17 @@ public final class AgainstReference {
     style = number % 5;
     int width = upTo(4) == 0 ? between(0, 4) : 3;
     same("wide(" + width + ")", () -> x.wide(width), () -> y.wide(width));
-    int many = style == 4 ? 6 : upTo(8);
-    for (int i = 0; i < many; i++) {
-      tellBound(x, y);
+    if (number % 25 == 4) {
+      same("wide(3)", () -> x.wide(3), () -> y.wide(3));
+      tellRound(x, y);
+      goRound(x, y);
+    } else {
+      int many = style == 4 ? 6 : upTo(8);
+      for (int i = 0; i < many; i++) {
+        tellBound(x, y);
+      }
+      tellWish(x, y);
     }
-    tellWish(x, y);
     for (int round = 0; round < 3; round++) {
       for (int i = 0; i < 7; i++) {
         search(x, y);

@@ -234,6 +234,12 @@ public final class AskTests {
     due("24: 1", x.corner(1), "0 3");
     due("24: 2", x.corner(2), "18/7 15/7");
     due("24: 3", x.corner(3), "4 0");
+    due("24: on a new object", two().corner(3), "4 0");
+    due("26: on a new object", new Simplexroom().ray(1), "1 0");
+    due("27: on a new object", two().best(true), 4);
+    due("28: on a new object", two().middle(), "18/7 15/7");
+    due("25: no rays", x.rays(), 0);
+    due("24: behind another question", x.corner(2), "18/7 15/7");
     Check.fails("24: 4", x, INDEX, () -> x.corner(4));
     Check.fails("24: -1", x, INDEX, () -> x.corner(-1));
     due("25: no rays", x.rays(), 0);

@@ -280,7 +280,7 @@ public final class TellTests {
     due("9: best at once", z.house(4), 1);
   }
 
-  /** Rings need a mix of rules: with 3 UNKNOWNS no rule alone was seen to go round. */
+  /** Its steps go round if the ninth one is by rule 1. */
   private static Simplexroom round() {
     Simplexroom x = new Simplexroom();
     x.wide(3);
@@ -327,6 +327,17 @@ public final class TellTests {
     due("13: no ring there", y.house(7), -1);
     due("9: on from there", y.run(0, 20), 1);
     due("9: to the answer", y.house(4), 1);
+    Simplexroom z = new Simplexroom();
+    z.wide(3);
+    z.bound(2, -5, 6, 0, 0);
+    z.bound(2, -3, 2, 0, 0);
+    z.bound(-6, 3, 8, 0, 0);
+    z.bound(1, 1, -6, 2, 0);
+    z.bound(0, 0, 1, 0, 0);
+    z.wish(4, -2, 1);
+    due("9: by one rule alone", z.run(1, 20), 8);
+    due("13: seven ago", z.house(7), 7);
+    due("9: it stays", z.run(1, 20), 0);
   }
 
   private static void promises10And11() {
