@@ -7,6 +7,7 @@ import java.util.Arrays;
 public final class Simplexroom {
   private static final int NONE = -1;
   private static final int MOST_UNKNOWNS = 3;
+  private static final int FIRST_WIDTH = 2;
   private static final int MOST_BOUNDS = 6;
   private static final int MOST_ROWS = 2 * MOST_BOUNDS;
   private static final int MOST_VARIABLES = MOST_UNKNOWNS + MOST_ROWS;
@@ -41,7 +42,6 @@ public final class Simplexroom {
   private int knocks = 0;
 
   public Simplexroom() {
-    table.begin(told);
   }
 
   // ---- the room
@@ -844,7 +844,7 @@ public final class Simplexroom {
 
   /** The bounds and the wish as they were told, and the rows that follow from them. */
   private static final class Told {
-    int width = 2;
+    int width = FIRST_WIDTH;
     int set = 0;
     int rows = 0;
     private final int[] factors = new int[MOST_BOUNDS * MOST_UNKNOWNS];
@@ -989,10 +989,18 @@ public final class Simplexroom {
     private static final int WISH = MOST_ROWS;
     private static final int NUMBER = MOST_UNKNOWNS;
     long bottom = 1;
-    private int size = 0;
+    private int size = FIRST_WIDTH;
     private final long[][] cells = new long[MOST_ROWS + 1][MOST_UNKNOWNS + 1];
     private final int[] lines = new int[MOST_VARIABLES];
     private final int[] columns = new int[MOST_VARIABLES];
+
+    /** The table of a new room: no rows, all unknowns are OUTER ones. */
+    Table() {
+      for (int v = 0; v < MOST_VARIABLES; v++) {
+        lines[v] = NONE;
+        columns[v] = v < FIRST_WIDTH ? v : NONE;
+      }
+    }
 
     void begin(Told told) {
       bottom = 1;
@@ -1550,8 +1558,10 @@ public final class Simplexroom {
       isFound = false;
       foundWorth = 0;
       waiting = 1;
-      Arrays.fill(lows, 0, MOST_UNKNOWNS, 0);
-      Arrays.fill(highs, 0, MOST_UNKNOWNS, NONE);
+      for (int u = 0; u < MOST_UNKNOWNS; u++) {
+        lows[u] = 0;
+        highs[u] = NONE;
+      }
       for (int i = 0; i < MOST_TASKS && i < waiting; i++) {
         taken++;
         region.load(told, told.set, false);
