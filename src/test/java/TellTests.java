@@ -27,6 +27,15 @@ public final class TellTests {
     due("1: value", x.value(), "0");
     due("1: corners", x.corners(), 1);
     due("1: rays", x.rays(), 2);
+    for (int v = 0; v < 2; v++) {
+      due("1: number(" + v + ")", x.number(v), "0");
+      due("1: gain of " + v, x.factor(-1, v), "0");
+    }
+    Check.fails("1: no third variable", x, INDEX, () -> x.number(2));
+    due("1: step", x.step(2), 3);
+    due("1: least", x.wishRange(1, false), "-");
+    due("1: greatest", x.wishRange(1, true), "0");
+    due("1: sound", x.isSound(), true);
     Simplexroom y = two();
     due("1: another object stays", x.house(1) + x.house(10), 0);
     due("1: this one does not", y.house(1), 2);
