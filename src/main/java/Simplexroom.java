@@ -1041,11 +1041,13 @@ public final class Simplexroom {
     }
 
     boolean isOuter(int variable) {
-      return variable >= 0 && variable < MOST_VARIABLES && columns[variable] >= 0;
+      return variable >= 0 && variable < MOST_VARIABLES && columns[variable] >= 0
+          && columns[variable] < MOST_UNKNOWNS;
     }
 
     private boolean isBasic(int variable) {
-      return variable >= 0 && variable < MOST_VARIABLES && lines[variable] >= 0;
+      return variable >= 0 && variable < MOST_VARIABLES && lines[variable] >= 0
+          && lines[variable] < MOST_ROWS;
     }
 
     int basics() {

@@ -45,6 +45,21 @@ final class Check {
     due("all behind " + what, whole(x), before);
   }
 
+  static int[] of(int... numbers) {
+    return numbers;
+  }
+
+  /** A room of a width with a wish and bounds (three factors, kind, right). */
+  static Simplexroom room(int width, int[] wish, int[]... bounds) {
+    Simplexroom x = new Simplexroom();
+    x.wide(width);
+    for (int[] b : bounds) {
+      x.bound(b[0], b[1], b[2], b[3], b[4]);
+    }
+    x.wish(wish[0], wish[1], wish[2]);
+    return x;
+  }
+
   static void end() {
     System.exit(wrong == 0 ? 0 : 1);
   }
