@@ -98,6 +98,29 @@ public final class AgainstReference {
     {2, -5, 6, 0, 2, -3, 2, 2, -4, 4, 1, 0, 1, 1, -6, 2, 0, 0, 1, 0, 7, 0, 1},
   };
 
+  /** Bounds (five numbers each), and a wish, that take more than 20 steps. */
+  private static final int[][] LONG = {
+    {-4, -4, 7, 2, -9, 4, 9, -1, 1, 22, 2, 4, -1, 2, 28, 8, -7, 4, 1, -18, -8, 8, -5, 0, 6, 2, -9, 6, 1, 0, 0, -2, 6},
+    {-3, -2, 8, 2, -4, -3, -6, 2, 0, -15, 7, 8, -5, 2, 38, 9, -5, 6, 1, -18, 6, -4, 5, 1, -1, 7, -7, 9, 1, 3, 4, 0, 2},
+    {1, 1, 8, 2, 22, -2, 5, 9, 0, 28, -1, 7, 9, 0, 30, -5, -1, 8, 1, -20, -4, -1, 4, 1, -12, -8, -3, 7, 1, -9,
+      -9, -4, -7},
+    {2, -5, -1, 2, -1, -3, 4, 7, 1, 37, -2, 3, 4, 2, 34, -6, -2, 9, 0, 32, 6, -1, -8, 1, 3, 4, -2, -5, 2, 14, 6, 3, 6},
+    {9, -9, 3, 2, 8, 5, -5, 7, 1, 36, 1, -1, 1, 2, 13, -9, -6, 4, 0, 13, 0, 5, -3, 1, 2, 1, -7, 4, 2, -16, 1, 0, 9},
+    {4, 6, -5, 2, 24, 4, -1, -6, 0, -7, -6, 2, 9, 2, 29, 8, 1, 2, 1, 12, 9, 2, 5, 1, 31, 4, 1, 3, 1, 19, -1, -6, 8},
+  };
+
+  private static void tellLong(Simplexroom x, Reference y) {
+    int[] r = LONG[upTo(LONG.length)].clone();
+    int other = upTo(3 * 30);
+    if (other < 30 && other % 5 != 3) {
+      r[other] = Math.max(-9, Math.min(9, r[other] + between(-1, 1)));
+    }
+    for (int i = 0; i < 30; i += 5) {
+      tellBound(x, y, r[i], r[i + 1], r[i + 2], r[i + 3], r[i + 4]);
+    }
+    same("wish", () -> x.wish(r[30], r[31], r[32]), () -> y.wish(r[30], r[31], r[32]));
+  }
+
   private static void tellRound(Simplexroom x, Reference y) {
     int[] r = ROUND[upTo(ROUND.length)].clone();
     int other = upTo(3 * r.length);
@@ -273,6 +296,11 @@ public final class AgainstReference {
       same("wide(3)", () -> x.wide(3), () -> y.wide(3));
       tellRound(x, y);
       goRound(x, y);
+    } else if (number % 25 == 9) {
+      same("wide(3)", () -> x.wide(3), () -> y.wide(3));
+      tellLong(x, y);
+      goRound(x, y);
+      seen("long " + (y.steps > 20 ? "more than 20" : "20 or less"));
     } else {
       int many = style == 4 ? 6 : upTo(8);
       for (int i = 0; i < many; i++) {

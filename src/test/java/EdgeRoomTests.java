@@ -176,6 +176,9 @@ public final class EdgeRoomTests {
     // 0 3/2, then 1/2 1, then 0 1 is found; 1 0 comes later with the same value and is left
     due("the same value is left", whole(room(2, of(1, 1, 0), of(2, 2, 0, 0, 3))), "1 at 0 1 by 9");
     due("all are below 0", whole(room(1, of(-1, 0, 0), of(2, 0, 0, 1, 3), of(1, 0, 0, 0, 9))), "-2 at 2 by 3");
+    // 0 1 is found with 5, then 2 0 with 6
+    due("the one that was found last", whole(room(2, of(3, 5, 0), of(2, 3, 0, 0, 4))), "6 at 2 0 by 7");
+    due("the last of four", whole(room(2, of(5, 4, 0), of(5, 4, 0, 0, 19))), "19 at 3 1 by 13");
     due("a value of 0 counts as one", whole(room(1, of(0, 0, 0), of(2, 0, 0, 2, 3))), "! at ! by 3");
   }
 

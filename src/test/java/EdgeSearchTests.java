@@ -443,6 +443,27 @@ public final class EdgeSearchTests {
         "2:10 19/4:95/4 63/8:275/8 48/5:192/5 314/15:848/15 677/30:1759/30 361/10:683/10");
   }
 
+  /** "of the OUTER ones .. that ENTERS whose GAIN / FACTOR is smallest, of several the first one" */
+  private static void lineWhereTwoCouldEnter() {
+    Simplexroom x = room(2, of(1, 1, 0), of(1, 1, 0, 0, 3), of(1, -1, 0, 0, -1), of(0, 1, 0, 0, 1));
+    x.run(0, 20);
+    // s0 = 2 + s1 + 2 s2 leaves, the wish is 1 - s1 - 2 s2: both ratios are 1, s1 enters
+    due("the slack of the row itself is the first one", x.line(1), "-1:1 1:3 +");
+    due("another slack is the first one", x.line(2), "1:1 2:3 3:3 +");
+  }
+
+  /** "the first BASIC whose number would be below 0 beyond LEAVES" */
+  private static void lineWhereTwoCouldLeave() {
+    Simplexroom x = room(2, of(1, 0, 0), of(1, 0, 0, 0, 2), of(1, 1, 0, 0, 4), of(1, -1, 0, 0, 4));
+    x.run(0, 20);
+    // a = 2 grows to 4, where s1 and s2 are 0: s1 leaves, s0 enters, s2 is never below 0
+    due("the first of two leaves", x.line(0), "2:2 4:4 +");
+    Simplexroom y = room(2, of(1, 0, 0), of(1, 0, 0, 0, 2), of(1, -1, 0, 0, 4), of(1, 1, 0, 0, 4));
+    y.run(0, 20);
+    // a - b to 4 leaves, b enters: b is a - 4, and a + b to 4 ends it at the same right
+    due("the first of two leaves, then the other one", y.line(0), "2:2 4:4 4:4 +");
+  }
+
   /** Between two bends the line is straight, and would() tells the same of whole rights. */
   private static void linesAreBestValues() {
     Simplexroom x = room(3, of(8, 1, 8), of(1, 3, 4, 1, 5), of(5, 0, 1, 0, 39), of(1, 2, 0, 0, 7),
@@ -514,6 +535,8 @@ public final class EdgeSearchTests {
     lineOfFiveBends();
     lineOfSixBends();
     lineOfMoreThanSix();
+    lineWhereTwoCouldEnter();
+    lineWhereTwoCouldLeave();
     linesAreBestValues();
     texts();
     witnessesOfBasicsAndOthers();
